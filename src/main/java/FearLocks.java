@@ -452,7 +452,7 @@ public final class FearLocks {
         }
 
         int now() {
-            return byteAt(at);
+            return at >= 0 && at < end && at < bytes.length ? bytes[at] : END;
         }
 
         /** False, so that a reader can hand the FAULT on as it leaves. */
@@ -476,7 +476,7 @@ public final class FearLocks {
         /** The number that stands here; -1 behind a FAULT. */
         int readNumber(int digits) {
             if (!isDigit(now())) {
-                cannotStand();
+                fail(FAULT_GRAMMAR, at);
                 return -1;
             }
             int first = at;
@@ -749,21 +749,19 @@ public final class FearLocks {
                         return text.fault;
                     }
                 }
-                if (!readLineBehind(lines, most)) {
+                if (!startsLine(text.now())) {
+                    text.cannotStand();
+                    return text.fault;
+                }
+                if (lines == most) {
+                    text.fail(FAULT_LINES, text.at);
+                    return text.fault;
+                }
+                if (!readLine()) {
                     return text.fault;
                 }
             }
             return text.fault;
-        }
-
-        private boolean readLineBehind(int lines, int most) {
-            if (!startsLine(text.now())) {
-                return text.cannotStand();
-            }
-            if (lines >= most) {
-                return text.fail(FAULT_LINES, text.at);
-            }
-            return readLine();
         }
     }
 

@@ -102,13 +102,18 @@ public final class DoorsTest {
         due("nobody OPENS it", x.crew(1), -2);
         due("what", x.crew(2), -1);
         due("what", x.crew(-1), -1);
-        Checks.orders(new FearLocks(), "d0:a0");
         FearLocks nobody = new FearLocks();
         Checks.orders(nobody, "d0:a0");
         due("nobody", nobody.crew(0), -2);
         FearLocks last = Checks.city(". . . . . . . . . . . p=99");
         Checks.orders(last, "d15:p99");
         due("the last one", last.crew(1), 1 << 11);
+        FearLocks each = Checks.city("a=1 b=1 c=1 d=1 e=1 f=1 g=1 h=1 i=1 j=1 k=1 l=1");
+        Checks.orders(each, "d0:a0;d1:b0;d2:c0;d3:d0;d4:e0;d5:f0;d6:g0;d7:h0;d8:i0;d9:j0;d10:k0");
+        due("eleven", each.crew(1), 2047);
+        Checks.orders(each, "d11:l0");
+        due("all", each.crew(0), 12);
+        due("all", each.crew(1), 4095);
     }
 
     private static void lodgings() {

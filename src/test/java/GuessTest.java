@@ -30,6 +30,10 @@ public final class GuessTest {
         due("between", Checks.guess(x, 0, 1, 1, 0, 0), 41);
         due("between", Checks.guess(x, 20, 1, 1, 0, 0), 60);
         due("the wrong way round", Checks.guess(x, 100, 0, 1, 1, 0), 0);
+        FearLocks near = Checks.city("a=40 a=41");
+        due("41 alone", Checks.guess(near, 100, 0, 0, 1, 1), 1);
+        due("41 alone", Checks.guess(near, 0, 0, 0, 1, 1), 41);
+        due("41 alone", Checks.guess(near, 20, 0, 0, 1, 1), 41);
         due("the wrong way round", Checks.guess(x, 0, 0, 1, 1, 0), -2);
         due("both ways", Checks.guess(x, 100, 0, 1, 0, 0), 0);
         due("99 did not", Checks.guess(x, 100, 2, 0), 65535 & ~2);

@@ -12,6 +12,7 @@ public final class LawTest {
         divisions();
         wholeNumbers();
         letters();
+        rulesOfBefore();
         CHECKS.finish();
     }
 
@@ -184,6 +185,20 @@ public final class LawTest {
         weighsSo("c65536*32767(1=1)", 99);
         weighsSo("c65536*32768(1=1)", 0);
         weighsSo("c65536*65536+4(1=1)", 4);
+    }
+
+    /** RULES and C that are longer in place of those before them, which were more. */
+    private static void rulesOfBefore() {
+        FearLocks x = Checks.city("a=9");
+        Checks.orders(x, "d0:a0");
+        Checks.law(x, "e2(1=1);x(1=1);x(1=1);x(1=1)");
+        due("he stays in", x.nights(1), 0);
+        Checks.law(x, "c1(1=1);x(1=1);x(1=1);x(1=1)");
+        due("he stays in", x.nights(1), 0);
+        for (int more = 0; more < 12; more++) {
+            due("one RULE", Checks.law(x, "e" + "1+".repeat(more) + "1(1=1|1=1|1=1|1=1|1=1)"), 1);
+            due("he goes out", x.nights(1), 1);
+        }
     }
 
     private static void letters() {
