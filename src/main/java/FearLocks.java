@@ -951,7 +951,6 @@ public final class FearLocks {
             if (rules < RULES_MOST) {
                 kind[rules] = letter;
                 worthFrom[rules] = steps;
-                conditionFrom[rules] = steps;
             }
         }
 
