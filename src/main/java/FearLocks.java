@@ -467,7 +467,7 @@ public final class FearLocks {
 
         boolean expect(int sign) {
             if (now() != sign) {
-                return cannotStand();
+                return fail(FAULT_GRAMMAR, at);
             }
             at++;
             return true;
@@ -765,7 +765,6 @@ public final class FearLocks {
         }
     }
 
-    /** Reads DREADS of one of PEOPLE. */
     private static final class DreadsReader extends LinesReader {
         private static final int OF_ALL = '*';
 
@@ -830,7 +829,6 @@ public final class FearLocks {
         }
     }
 
-    /** Reads ORDERS. */
     private static final class OrdersReader extends LinesReader {
         private final City city;
 
@@ -1157,16 +1155,20 @@ public final class FearLocks {
         private boolean readTest(int depth) {
             int sign = text.now();
             if (sign == '!') {
-                if (!open(depth) || !readTest(depth + 1)) {
-                    return false;
-                }
-                law.add('!', 0);
-                return true;
+                return readNegation(depth);
             }
             if (sign == '(') {
                 return open(depth) && readAnyOf(depth + 1) && text.expect(')');
             }
             return readComparison(depth);
+        }
+
+        private boolean readNegation(int depth) {
+            if (!open(depth) || !readTest(depth + 1)) {
+                return false;
+            }
+            law.add('!', 0);
+            return true;
         }
 
         private boolean open(int depth) {
@@ -1250,7 +1252,6 @@ public final class FearLocks {
         }
     }
 
-    /** Lets NIGHTS go by. */
     private static final class Nightfall {
         /** DREADS as they were when all had tried their DOORS. */
         private final City behindDoors = new City();

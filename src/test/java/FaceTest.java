@@ -41,6 +41,13 @@ public final class FaceTest {
             checks.due(field + " is public", Modifier.isPublic(field.getModifiers()), isNone);
             checks.due(field + " is private", Modifier.isPrivate(field.getModifiers()), !isNone);
         }
+        for (Class<?> inside : FearLocks.class.getDeclaredClasses()) {
+            checks.due(inside + " is private and static",
+                Modifier.isPrivate(inside.getModifiers()) && Modifier.isStatic(inside.getModifiers()), true);
+            for (Method method : inside.getDeclaredMethods()) {
+                checks.due(method + " has a public one's name", publicNames.contains(method.getName()), false);
+            }
+        }
         Constructor<?>[] constructors = FearLocks.class.getDeclaredConstructors();
         checks.due("constructors", constructors.length, 1);
         checks.due("it is public", Modifier.isPublic(constructors[0].getModifiers()), true);
